@@ -354,6 +354,16 @@ public final class PromiseTest {
         due("meets at the end", vale.meets(0, 1, 60), 0);
         due("secret at the end", vale.secret(0, 60), 9);
         due("camping at the end", vale.camping(0, 0, 60), 1);
+        EchoVale quick = Check.vale("land 5 5;cliff p 0 0 1 9;person a 0 1;person b 0 2;");
+        for (int i = 0; i < 4; i++) {
+            quick.on(100);
+        }
+        quick.says(0, 5, 9);
+        due("comes behind the last hour", quick.comes(0, 0, 0), 401);
+        due("next is behind the last hour", quick.next(100), NONE);
+        due("when is behind the last hour", quick.when(1, 0, 100), NONE);
+        due("heirs stay", quick.heirs(0, 60), 1);
+        due("nobody is told", quick.tells(0, 1, 3, 60, NONE), 0);
     }
 
     private static void promise15() {
@@ -778,11 +788,23 @@ public final class PromiseTest {
         due("behind", vale.byteAt(18), NONE);
         due("bytes", vale.write(1), 12);
         due("behind the shorter one", vale.byteAt(12), NONE);
-        vale.on(95);
+        vale.on(93);
         vale.says(1, 5, 5);
         vale.on(3);
         due("bytes", vale.write(2), 22);
-        Check.due("text", Check.written(vale), "z 102 5;abcdefg 103 3;");
+        Check.due("text", Check.written(vale), "z 100 5;abcdefg 101 3;");
+        vale.undo();
+        vale.undo();
+        vale.undo();
+        vale.on(2);
+        vale.says(1, 5, 3);
+        vale.on(2);
+        vale.says(1, 5, 3);
+        vale.on(2);
+        due("bytes", vale.write(2), 6);
+        Check.due("one digit", Check.written(vale), "z 9 3;");
+        due("bytes", vale.write(3), 7);
+        Check.due("two digits", Check.written(vale), "z 11 3;");
     }
 
     private static void promise38and39() {

@@ -103,6 +103,10 @@ public final class TextTest {
         fault("7;", 0, 1);
         fault("land 5 5;;", 9, 1);
         fault("land a 5;", 5, 1);
+        fault("land said 5;", 5, 1);
+        fault("land ; 5;", 5, 1);
+        fault("0 5 5;", 0, 1);
+        fault("( 5 5;", 0, 1);
         fault("land 5 5 5;", 9, 1);
         fault("land 5 5.", 8, 1);
         fault("land 5 5\t;", 8, 1);
@@ -258,6 +262,8 @@ public final class TextTest {
         claimsFault(vale, "owns 1 0;", 5, 1);
         claimsFault(vale, "owns said 0;", 5, 1);
         claimsFault(vale, "owns a b;", 7, 1);
+        claimsFault(vale, "owns a land;", 7, 1);
+        claimsFault(vale, "8 a 0;", 0, 1);
         claimsFault(vale, "owns a 0", 8, 1);
         claimsFault(vale, "owns a 0;owns a 0 0;", 18, 1);
         claimsFault(vale, "owns a 30;", 7, 2);
@@ -305,6 +311,9 @@ public final class TextTest {
         sentenceFault(vale, "worth 5", 6, 1);
         sentenceFault(vale, "worth ( 5", 6, 1);
         sentenceFault(vale, "worth<a", 6, 1);
+        sentenceFault(vale, "worth<hour", 6, 1);
+        sentenceFault(vale, "13", 0, 1);
+        sentenceFault(vale, "of(", 2, 1);
         sentenceFault(vale, "worth<1000", 6, 1);
         sentenceFault(vale, "worth<=5", 6, 1);
         sentenceFault(vale, "a", 0, 1);
