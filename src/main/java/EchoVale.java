@@ -410,7 +410,7 @@ public final class EchoVale {
     }
 
     public int meets(int p, int q, int n) {
-        if (!isPerson(p) || !isPerson(q) || p == q || !isAhead(n)) {
+        if (!isPerson(p) || !isPerson(q) || !isAhead(n)) {
             return NONE;
         }
         ahead.copyPlaces(course);

@@ -325,9 +325,6 @@ public final class ModelTest {
     }
 
     private void askMeets(int p, int q, int n) {
-        if (p == q) {
-            return;
-        }
         PlainModel m = model.copy();
         int met = 0;
         for (int i = 0; i < n && m.hour < 400; i++) {
@@ -337,6 +334,7 @@ public final class ModelTest {
             met += a.x == b.x && a.y == b.y ? 1 : 0;
         }
         due("meets", vale.meets(p, q, n), met);
+        due("meets itself", vale.meets(p, p, n), Math.min(n, 400 - model.hour));
     }
 
     private void askNear(int cell, int loud) {

@@ -30,6 +30,7 @@ public final class PromiseTest {
         promise21();
         promise22to24();
         promise25();
+        promise25OfOnePerson();
         promise26();
         promise27and28();
         promise28Fifty();
@@ -554,13 +555,32 @@ public final class PromiseTest {
         due("n 61", vale.meets(0, 1, 61), NONE);
         due("no such person", vale.meets(0, 2, 1), NONE);
         due("no such person", vale.meets(-1, 0, 1), NONE);
-        due("two of them", vale.meets(0, 0, 1), NONE);
         vale.on(100);
         vale.on(100);
         vale.on(100);
         vale.on(95);
         vale.goes(0, 44);
         due("400 is the last", vale.meets(0, 1, 60), 5);
+    }
+
+    /** A PERSON told twice is on one CELL with itself in each HOUR that goes by, wherever it moves. */
+    private static void promise25OfOnePerson() {
+        EchoVale vale = Check.vale("land 5 5;person a 0 0;person b 1 0;person c 4 4;move a 3 1 0;move b 6 4 4;");
+        for (int hour = 0; hour <= 400; hour += hour < 330 ? 30 : 1) {
+            due("hour", vale.count(4), hour);
+            for (int p = 0; p < 3; p++) {
+                for (int n = 1; n <= 60; n++) {
+                    due("itself at " + hour, vale.meets(p, p, n), Math.min(n, 400 - hour));
+                }
+                due("itself by 0", vale.meets(p, p, 0), NONE);
+                due("itself by -1", vale.meets(p, p, -1), NONE);
+                due("itself by 61", vale.meets(p, p, 61), NONE);
+            }
+            due("no such person twice", vale.meets(3, 3, 1), NONE);
+            due("no such person twice", vale.meets(-1, -1, 1), NONE);
+            vale.on(hour < 330 ? 30 : 1);
+        }
+        due("no persons", Check.vale("land 5 5;").meets(0, 0, 1), NONE);
     }
 
     private static void promise26() {
