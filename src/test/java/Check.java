@@ -22,7 +22,18 @@ final class Check {
         made++;
         if (!got.equals(want)) {
             wrong++;
-            System.out.println(what + " answered '" + got + "', due is '" + want + "'");
+            tellDifference(what, got.split("\n", -1), want.split("\n", -1));
+        }
+    }
+
+    private static void tellDifference(String what, String[] got, String[] want) {
+        for (int i = 0; i < Math.max(got.length, want.length); i++) {
+            String one = i < got.length ? got[i] : "nothing";
+            String other = i < want.length ? want[i] : "nothing";
+            if (!one.equals(other)) {
+                System.out.println(what + " answered in line " + i + " '" + one + "', due is '" + other + "'");
+                return;
+            }
         }
     }
 
