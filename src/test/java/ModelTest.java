@@ -3,6 +3,8 @@ import java.util.ArrayList;
 import java.util.Deque;
 import java.util.List;
 import java.util.Random;
+import java.util.function.Consumer;
+import java.util.function.ToLongFunction;
 
 /** Runs drawn by fixed seeds, each call's answer against that of PlainModel. */
 public final class ModelTest {
@@ -11,7 +13,10 @@ public final class ModelTest {
         "lands", "persons", "nott", "an", "loude"};
 
     private final Random random;
-    private final EchoVale vale = new EchoVale();
+    // An object is used for at most 512 calls: one that has too few left gives way to another, made by the same acts.
+    private EchoVale vale = new EchoVale();
+    private int left;
+    private final List<Consumer<EchoVale>> acts = new ArrayList<>();
     private PlainModel model;
     private final Deque<PlainModel> undone = new ArrayDeque<>();
     private final String run;
@@ -33,6 +38,27 @@ public final class ModelTest {
 
     private int upTo(int n) {
         return random.nextInt(n);
+    }
+
+    /** Sees to it that the object has so many calls left. */
+    private void room(int calls) {
+        if (left < calls) {
+            vale = new EchoVale();
+            for (Consumer<EchoVale> done : acts) {
+                done.accept(vale);
+            }
+            // The VALLEY's text takes at most 48 calls.
+            left = 512 - 48 - acts.size();
+        }
+        left -= calls;
+        due("enough calls are left", left >= 0 ? 1 : 0, 1);
+    }
+
+    /** What is done now, and again for each object that is made anew. */
+    private long done(ToLongFunction<EchoVale> one) {
+        room(1);
+        acts.add(one::applyAsLong);
+        return one.applyAsLong(vale);
     }
 
     private void due(String what, long got, long want) {
@@ -84,15 +110,16 @@ public final class ModelTest {
 
     private void go() {
         model = newModel(upTo(2) == 0 ? 10 : 5);
-        due("valley", Check.valley(vale, model.text()), model.lines());
+        String text = model.text();
+        due("valley", done(v -> Check.valley(v, text)), model.lines());
         PlainModel kept = null;
         for (int i = 0; i < 30; i++) {
             act();
             if (upTo(12) == 0) {
-                due("image", vale.image(1) ? 1 : 0, 1);
+                due("image", done(v -> v.image(1) ? 1 : 0), 1);
                 kept = model.copy();
             } else if (upTo(12) == 0) {
-                due("restore", vale.restore(1) ? 1 : 0, kept == null ? 0 : 1);
+                due("restore", done(v -> v.restore(1) ? 1 : 0), kept == null ? 0 : 1);
                 if (kept != null) {
                     model = kept.copy();
                     undone.clear();
@@ -116,7 +143,7 @@ public final class ModelTest {
             case 0:
                 keep();
                 int at = upTo(model.h) * 10 + upTo(model.w);
-                due("goes", vale.goes(p, at) ? 1 : 0, 1);
+                due("goes", done(v -> v.goes(p, at) ? 1 : 0), 1);
                 model.persons.get(p).x = at % 10;
                 model.persons.get(p).y = at / 10;
                 return;
@@ -125,10 +152,10 @@ public final class ModelTest {
                 if (model.hour < 400) {
                     keep();
                 }
-                due("on", vale.on(hours), model.on(hours));
+                due("on", done(v -> v.on(hours)), model.on(hours));
                 return;
             case 2:
-                due("undo", vale.undo(), undone.isEmpty() ? NONE : undone.size() - 1);
+                due("undo", done(EchoVale::undo), undone.isEmpty() ? NONE : undone.size() - 1);
                 if (!undone.isEmpty()) {
                     model = undone.removeLast();
                 }
@@ -139,7 +166,8 @@ public final class ModelTest {
                 if (model.hour < 400) {
                     keep();
                 }
-                due("drawn", vale.drawn(n, seed), model.drawn(n, seed));
+                due("drawn", done(v -> v.drawn(n, seed)), model.drawn(n, seed));
+                room(2);
                 due("storms", vale.storms(0), model.storms);
                 due("sayings drawn", vale.storms(1), model.drawnSayings);
                 return;
@@ -152,14 +180,15 @@ public final class ModelTest {
         int worth = 1 + upTo(99);
         int loud = 1 + upTo(9);
         if (model.says.size() == 30) {
-            due("says of 31", vale.says(p, worth, loud), NONE);
+            due("says of 31", done(v -> v.says(p, worth, loud)), NONE);
             return;
         }
         keep();
-        due("says", vale.says(p, worth, loud), model.say(p, worth, loud));
+        due("says", done(v -> v.says(p, worth, loud)), model.say(p, worth, loud));
     }
 
     private void compareState() {
+        room(50);
         due("hour", vale.count(4), model.hour);
         due("sayings", vale.count(5), model.says.size());
         due("echoes", vale.count(6), model.echoes.size());
@@ -187,10 +216,12 @@ public final class ModelTest {
         for (int k = 0; k < model.echoes.size(); k++) {
             PlainModel.Echo e = model.echoes.get(k);
             int[] wanted = {e.say, e.cliff, e.hour, e.force, PlainModel.bits(e.heard), NONE};
+            room(6);
             for (int what = 0; what < 6; what++) {
                 due("sounded " + k + " " + what, vale.sounded(k, what), wanted[what]);
             }
         }
+        room(10);
         due("sounded behind", vale.sounded(model.echoes.size(), 0), NONE);
         for (int c = 0; c < model.cliffs.size(); c++) {
             PlainModel.Cliff cliff = model.cliffs.get(c);
@@ -199,6 +230,7 @@ public final class ModelTest {
     }
 
     private void compareSaying(int s) {
+        room(26);
         PlainModel.Say say = model.says.get(s);
         int[] wanted = {say.worth, say.by, say.hour, say.y * 10 + say.x, say.loud, PlainModel.bits(say.owners),
             say.times, PlainModel.bits(say.heard)};
@@ -216,6 +248,7 @@ public final class ModelTest {
     }
 
     private void ask() {
+        room(150);
         int p = upTo(model.persons.size());
         int q = upTo(model.persons.size());
         int n = 1 + upTo(60);
@@ -387,6 +420,7 @@ public final class ModelTest {
                         .append(e.force).append(';');
                 }
             }
+            room(90);
             due("write", vale.write(s), text.length());
             Check.due(run + "written", Check.written(vale), text.toString());
         }
@@ -493,6 +527,7 @@ public final class ModelTest {
 
     private void goPieces() {
         model = newModel(4);
+        room(300);
         if (model.cliffs.isEmpty()) {
             return;
         }

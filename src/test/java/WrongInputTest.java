@@ -21,7 +21,7 @@ public final class WrongInputTest {
             .filter(m -> (m.getModifiers() & java.lang.reflect.Modifier.PUBLIC) != 0)
             .sorted(Comparator.comparing(Method::getName)).toArray(Method[]::new);
         Check.due("methods of the face", face.length, 41);
-        for (int seed = 0; seed < 60; seed++) {
+        for (int seed = 0; seed < 150; seed++) {
             run(face, new Random(seed), seed);
         }
         Check.finish("WrongInputTest");
@@ -30,9 +30,12 @@ public final class WrongInputTest {
     private static void run(Method[] face, Random random, int seed) throws IllegalAccessException {
         EchoVale vale = new EchoVale();
         Check.valley(vale, TEXTS[0]);
-        for (int call = 0; call < 400; call++) {
+        // A text is some ten calls; an object is used for at most 512.
+        for (int calls = 20; calls < 490; calls++) {
             if (random.nextInt(6) == 0) {
-                Check.tape(vale, damaged(TEXTS[random.nextInt(TEXTS.length)], random));
+                String text = damaged(TEXTS[random.nextInt(TEXTS.length)], random);
+                Check.tape(vale, text);
+                calls += 3 + text.length() / 20;
             }
             Method method = face[random.nextInt(face.length)];
             Object[] arguments = new Object[method.getParameterCount()];
