@@ -632,9 +632,14 @@ public final class BoundsTest {
                 EchoVale vale = States.busy();
                 vale.image(k);
                 due("P40 an image leaves what can be undone", vale.undo(), 7);
-                Check.valley(vale, "land 3 3;cliff p 0 0 1 1;person x 0 0;");
-                vale.says(0, 5, 5);
+                // Another VALLEY, in which all tables get full.
+                Check.valley(vale, "land 3 3;cliff p 0 0 1 1;cliff q 0 1 1 1;cliff r 1 0 1 1;cliff s 1 1 1 1;"
+                    + "person x 0 0;person y 0 0;person z 0 0;person k 0 0;person m 0 0;person n 0 0;");
+                for (int s = 0; s < 30; s++) {
+                    vale.says(5, 5, 5);
+                }
                 vale.on(9);
+                due("much SOUNDED", vale.count(6), 120);
                 Check.sentence(vale, "lost");
                 Check.tape(vale, States.ON_TAPE);
                 due("P41 restore of place " + k, vale.restore(k), true);

@@ -8,6 +8,7 @@ public final class RuleBoundsTest {
     public static void main(String[] args) {
         howLoud();
         howFarOnward();
+        howFarOnwardInARow();
         force();
         snowByHour();
         storms();
@@ -22,7 +23,11 @@ public final class RuleBoundsTest {
         drawnAndOdds();
         waysOfPieces();
         sentences();
+        manySentences();
         likeOnes();
+        lastCell();
+        sixthCliff();
+        digits();
         manyCalls();
         Check.finish("RuleBoundsTest");
     }
@@ -80,6 +85,28 @@ public final class RuleBoundsTest {
                 due("P9 when it comes onward" + of, vale.comes(0, 1, 0), what == 0 ? NONE : 41);
                 vale.on(40);
                 due("P11 q SOUNDS" + of, vale.sounded(1, 3), what == 0 ? NONE : what);
+            }
+        }
+    }
+
+    // The same in a row that turns at the land's edge: a says it with LOUD 9 so far ahead of p, and q, beyond 9, is so far
+    // behind p.
+    private static void howFarOnwardInARow() {
+        for (int ahead = 0; ahead <= 9; ahead++) {
+            for (int strength = 1; strength <= 9; strength++) {
+                for (int far = 10 - ahead; far <= 18 - ahead && far > 0; far++) {
+                    int x = Math.min(9, ahead + far);
+                    EchoVale vale = Check.vale("land 10 10;cliff p " + ahead + " 0 1 " + strength + ";cliff q " + x + " "
+                        + (ahead + far - x) + " 2 9;person a 0 0;");
+                    vale.says(0, 9, 9);
+                    int force = Math.min(strength, 9 - ahead / 2);
+                    int what = force - 1 - far / 2;
+                    boolean comes = far <= force && what >= 1;
+                    due("P9 too far by itself", vale.comes(0, 1, 0), NONE);
+                    vale.on(1);
+                    due("P11 FORCE at p", vale.sounded(0, 3), force);
+                    due("P9 what FORCE " + force + " sends so far: " + far, vale.comes(0, 1, 1), comes ? what : NONE);
+                }
             }
         }
     }
@@ -523,6 +550,98 @@ public final class RuleBoundsTest {
         joint.on(1);
         due("P39 joint: three own it", Check.saidBits(joint, "joint"), 3);
         due("P39 of each of three", Check.saidBits(joint, "of a and of b and of c"), 2);
+    }
+
+    // Each SENTENCE is told anew, however many there were, and however many ONES they had; undo() leaves it.
+    private static void manySentences() {
+        EchoVale vale = Check.vale("land 9 9;cliff p 0 0 1 9;person a 0 0;person b 8 8;");
+        vale.says(0, 50, 9);
+        vale.says(1, 60, 9);
+        String falseOnes = "joint or ".repeat(19);
+        for (int i = 0; i < 6; i++) {
+            due("P38 twenty ONES", Check.sentence(vale, falseOnes + "by b"), 20);
+            due("P39 the second alone", vale.said(NONE), 1);
+            due("P39 the second alone", vale.said(0), 1);
+            due("P38 twenty ONES", Check.sentence(vale, falseOnes + "by a"), 20);
+            due("P39 the first alone", vale.said(0), 0);
+            due("P38 a FAULT behind nineteen ONES", Check.sentence(vale, falseOnes + "by z") < 0 ? 1 : 0, 1);
+            due("P39 the first alone still", vale.said(0), 0);
+        }
+        vale.goes(0, 3);
+        due("P38 another SENTENCE", Check.sentence(vale, "worth>50"), 1);
+        vale.undo();
+        due("P15 undo() leaves the SENTENCE", vale.said(0), 1);
+        vale.undo();
+        due("P39 none of what is left", vale.said(NONE), 0);
+    }
+
+    // CELL 99 is the last of the largest land.
+    private static void lastCell() {
+        // Each SAYING comes to one CLIFF alone; (9, 9) is the only CELL from where all three are heard.
+        EchoVale vale = Check.vale("land 10 10;cliff p 7 9 1 9;cliff q 9 7 1 9;cliff r 9 9 1 9;person a 6 9;person b 0 0;");
+        vale.says(0, 5, 2);
+        vale.goes(0, 69);
+        vale.says(0, 5, 2);
+        vale.goes(0, 99);
+        vale.says(0, 5, 1);
+        vale.goes(0, 0);
+        due("P16 the last CELL", vale.camp(1, 1), 99);
+        due("P17 the last CELL", vale.camping(1, 99, 1), 15);
+        due("P17 the last CELL but one", vale.camping(1, 98, 1), 10);
+        // From 2 away LOUD 2 comes as 1: b, at p, hears it alone.
+        vale.goes(1, 97);
+        int found = vale.tells(0, 1, 2, 1, NONE);
+        due("P20 the last CELL of some", found > 1 ? 1 : 0, 1);
+        due("P20 the last CELL", Check.vale("land 10 10;cliff p 7 9 1 9;person a 0 0;person b 7 9;").tells(0, 1, 2, 1, 4), 99);
+        EchoVale pieces = Check.vale("land 10 10;cliff p 9 9 1 9;");
+        due("P27 the last CELL", Check.pieces(pieces, 0, 1, 9), 3);
+        due("P28 the last CELL", pieces.piece(2), 999);
+        due("P34 the last CELL", pieces.reach(99, 1), 1);
+        due("P26 the last CELL", pieces.nearest(99, 1), 0);
+    }
+
+    // What one SAYING makes six CLIFFS SOUND with, in six HOURS: the last of them is heard, too, alone and with the first.
+    private static void sixthCliff() {
+        StringBuilder text = new StringBuilder("land 10 2;person a 0 0;");
+        for (int c = 0; c < 6; c++) {
+            text.append("cliff ").append((char) ('p' + c)).append(' ').append(c).append(" 0 ").append(40 - c).append(" 9;");
+        }
+        EchoVale vale = Check.vale(text.toString());
+        vale.says(0, 1, 9);
+        vale.on(40);
+        for (int k = 0; k < 6; k++) {
+            due("six HOURS", vale.sounded(k, 2), 35 + k);
+        }
+        int force = vale.sounded(5, 3);
+        due("P27 the sixth", Check.pieces(vale, 0, 40, force, 5, 35, vale.sounded(0, 3)) > 0 ? 1 : 0, 1);
+        boolean met = false;
+        for (int k = 0; k < 50; k++) {
+            met |= vale.piece(k) == 9;
+        }
+        due("P28 as it was said", met ? 1 : 0, 1);
+        // The same of a chain: what SOUNDS at 40, at 60 and at 100, and 155 HOURS later.
+        for (int later = 0; later <= 155; later += 155) {
+            EchoVale chain = Check.vale(CHAIN);
+            int ways = Check.pieces(chain, 2, 100 + later, 1, 0, 40 + later, 9, 1, 60 + later, 4);
+            due("P27 a chain", ways > 0 ? 1 : 0, 1);
+            boolean said = false;
+            for (int k = 0; k < ways; k++) {
+                said |= chain.piece(k) == later * 1000 + 109;
+                due("P28 a chain, its HOUR", chain.piece(k) / 1000, later);
+            }
+            due("P28 a chain as it was said", said ? 1 : 0, 1);
+        }
+    }
+
+    // HOURS of one, two and three digits.
+    private static void digits() {
+        for (int hour : new int[] {1, 9, 10, 11, 99, 100, 101, 109, 110, 199, 200, 399, 400}) {
+            EchoVale vale = passed(Check.vale("land 2 2;cliff p 0 0 1 9;person a 0 0;"), hour - 1);
+            vale.says(0, 1, 9);
+            vale.on(1);
+            due("P36 bytes at HOUR " + hour, vale.write(0), 5 + String.valueOf(hour).length());
+            Check.due("P37 text at HOUR " + hour, Check.written(vale), "p " + hour + " 9;");
+        }
     }
 
     // Of like ones the first.
