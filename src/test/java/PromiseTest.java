@@ -4,6 +4,9 @@ import java.util.NoSuchElementException;
 public final class PromiseTest {
     private static final int NONE = EchoVale.NONE;
 
+    // What the check that is made now tests.
+    private static String promise = "";
+
     // Two CLIFFS at the ends of a row, a PERSON below each.
     private static final String PAIR = "land 5 5;cliff p 0 0 3 9;cliff q 4 0 2 9;person a 0 1;person b 4 1;";
     // One CLIFF in a corner and three PERSONS along its row.
@@ -50,11 +53,11 @@ public final class PromiseTest {
     }
 
     private static void due(String what, long got, long want) {
-        Check.due(what, got, want);
+        Check.due(promise + " " + what, got, want);
     }
 
     private static void due(String what, boolean got, boolean want) {
-        Check.due(what, got, want);
+        Check.due(promise + " " + what, got, want);
     }
 
     private static void noCliff(EchoVale vale, int c, int what) {
@@ -88,6 +91,7 @@ public final class PromiseTest {
     }
 
     private static void promise01() {
+        promise = "P1";
         EchoVale vale = new EchoVale();
         due("NONE", EchoVale.NONE, -1);
         due("width", vale.count(0), 0);
@@ -99,6 +103,7 @@ public final class PromiseTest {
     }
 
     private static void promise02and03() {
+        promise = "P2, P3";
         EchoVale vale = new EchoVale();
         due("feed", vale.feed(0x736e6f77, 0x20352034, 0x3b20ff00, 0, 0), 20);
         due("end 21", vale.end(21), false);
@@ -112,6 +117,7 @@ public final class PromiseTest {
     }
 
     private static void promise04and05() {
+        promise = "P4, P5";
         EchoVale vale = new EchoVale();
         due("valley", Check.valley(vale, PAIR), 5);
         due("fault", vale.fault(), 0);
@@ -121,6 +127,7 @@ public final class PromiseTest {
     }
 
     private static void promise06() {
+        promise = "P6";
         EchoVale vale = Check.vale("land 9 9;cliff p 3 4 7 5;cliff q 0 0 1 2;snow 2 3;snow 4 1;");
         due("cell", vale.cliff(0, 0), 43);
         due("delay", vale.cliff(0, 1), 7);
@@ -139,6 +146,7 @@ public final class PromiseTest {
     }
 
     private static void promise07() {
+        promise = "P7";
         EchoVale vale = Check.vale(PAIR + "camp b 2 3;move a 1 2 2;");
         due("cell", vale.person(0, 0), 10);
         due("camp", vale.person(1, 5), 32);
@@ -167,6 +175,7 @@ public final class PromiseTest {
     }
 
     private static void promise08() {
+        promise = "P8";
         EchoVale vale = Check.vale(PAIR + "felt 0 1;");
         vale.on(2);
         due("number", vale.says(0, 9, 6), 0);
@@ -188,6 +197,7 @@ public final class PromiseTest {
     }
 
     private static void promise09() {
+        promise = "P9";
         EchoVale vale = Check.vale(PAIR);
         vale.says(0, 9, 4);
         due("when", vale.comes(0, 0, 0), 3);
@@ -219,6 +229,7 @@ public final class PromiseTest {
 
     // CLIFF p SOUNDS at 1 and q at 1: both send on to r, of like ones the greater comes; p and q get nothing more.
     private static void promise09OnceOnly() {
+        promise = "P9";
         String[] cliffs = {"cliff q 0 2 2 9;cliff p 3 0 2 9;", "cliff p 3 0 2 9;cliff q 0 2 2 9;"};
         for (String both : cliffs) {
             EchoVale vale = Check.vale("land 9 9;" + both + "cliff r 3 3 1 9;person a 0 0;");
@@ -247,6 +258,7 @@ public final class PromiseTest {
     }
 
     private static void promise10() {
+        promise = "P10";
         EchoVale vale = Check.vale(ROW);
         vale.says(2, 10, 9);
         due("own", vale.share(2, 0), 10);
@@ -274,6 +286,7 @@ public final class PromiseTest {
     }
 
     private static void promise11() {
+        promise = "P11";
         EchoVale vale = Check.vale("land 5 2;cliff p 0 0 2 3;cliff q 4 0 2 9;person a 0 1;person b 4 1;");
         // A second SAYING SOUNDS in the same HOUR: first by SAYING, then by CLIFF.
         vale.says(1, 9, 9);
@@ -296,6 +309,7 @@ public final class PromiseTest {
     }
 
     private static void promise12() {
+        promise = "P12";
         EchoVale vale = Check.vale("land 3 4;person a 0 1;");
         due("goes", vale.goes(0, 32), true);
         due("there", vale.person(0, 0), 32);
@@ -309,6 +323,7 @@ public final class PromiseTest {
     }
 
     private static void promise13() {
+        promise = "P13";
         EchoVale vale = Check.vale(PAIR);
         due("worth 0", vale.says(0, 0, 1), NONE);
         due("worth 100", vale.says(0, 100, 1), NONE);
@@ -330,6 +345,7 @@ public final class PromiseTest {
     }
 
     private static void promise14() {
+        promise = "P14";
         EchoVale vale = Check.vale(PAIR);
         due("0", vale.on(0), NONE);
         due("101", vale.on(101), NONE);
@@ -368,6 +384,7 @@ public final class PromiseTest {
     }
 
     private static void promise15() {
+        promise = "P15";
         EchoVale vale = Check.vale(PAIR);
         vale.goes(0, 22);
         vale.says(0, 9, 9);
@@ -399,6 +416,7 @@ public final class PromiseTest {
     }
 
     private static void promise16and17() {
+        promise = "P16, P17";
         EchoVale vale = Check.vale(ROW);
         vale.says(2, 10, 9);
         // k SOUNDS with 5: who is within 5 of (0, 0) owns it together with a and b.
@@ -436,6 +454,7 @@ public final class PromiseTest {
 
     // Two CLIFFS; a and b may each camp beside the other one.
     private static void promise18and19() {
+        promise = "P18, P19";
         EchoVale vale = Check.vale(ROW + "camp c 3 1;camp b 8 0;");
         vale.says(2, 10, 9);
         due("none camps", vale.has(2, 0, 1), 0);
@@ -465,6 +484,7 @@ public final class PromiseTest {
     }
 
     private static void promise20() {
+        promise = "P20";
         EchoVale vale = Check.vale("land 5 5;cliff p 0 0 3 9;person a 4 4;person b 1 0;");
         // FORCE 1 at p is heard by b alone, unless a is within 1 of it, too: LOUD 1 from (0, 0), (1, 0), (0, 1).
         due("a within 1", vale.tells(0, 1, 1, 3, NONE), 0);
@@ -495,6 +515,7 @@ public final class PromiseTest {
     }
 
     private static void promise21() {
+        promise = "P21";
         EchoVale vale = Check.vale("land 9 9;cliff p 0 0 3 9;person a 0 4;person b 8 8;");
         // a is 4 from p: LOUD 4 comes as 2, which a does not hear; LOUD 5 as 3, 6 as 4.
         due("secret", vale.secret(0, 3), 5);
@@ -510,6 +531,7 @@ public final class PromiseTest {
     }
 
     private static void promise22to24() {
+        promise = "P22, P23, P24";
         EchoVale vale = Check.vale(PAIR);
         due("nothing", vale.next(100), NONE);
         vale.on(10);
@@ -545,6 +567,7 @@ public final class PromiseTest {
     }
 
     private static void promise25() {
+        promise = "P25";
         EchoVale vale = Check.vale("land 5 5;person a 0 0;person b 1 0;move a 3 1 0;move b 6 4 4;");
         due("meets", vale.meets(0, 1, 60), 3);
         due("meets", vale.meets(1, 0, 4), 2);
@@ -565,6 +588,7 @@ public final class PromiseTest {
 
     /** A PERSON told twice is on one CELL with itself in each HOUR that goes by, wherever it moves. */
     private static void promise25OfOnePerson() {
+        promise = "P25";
         for (int hour = 0; hour <= 400; hour += hour < 330 ? 30 : 1) {
             EchoVale vale = Check.vale("land 5 5;person a 0 0;person b 1 0;person c 4 4;move a 3 1 0;move b 6 4 4;");
             for (int left = hour; left > 0; left -= 100) {
@@ -586,6 +610,7 @@ public final class PromiseTest {
     }
 
     private static void promise26() {
+        promise = "P26";
         EchoVale vale = Check.vale("land 10 10;cliff p 0 0 1 3;cliff q 4 0 1 9;cliff r 9 9 1 9;felt 1 1;");
         // From (1, 0): 1 to p: 9, at most 3; 3 to q: 8.
         due("at most its strength", vale.nearest(1, 9), 1);
@@ -606,6 +631,7 @@ public final class PromiseTest {
     }
 
     private static void promise27and28() {
+        promise = "P27, P28";
         EchoVale vale = Check.vale("land 3 3;cliff p 0 0 2 5;cliff q 2 0 3 9;felt 0 0;snow 8 1;");
         due("ahead of any", vale.piece(0), NONE);
         // p at 7 with 4: said at 5; through q, said at 2, p would have given it back by itself, ahead of that.
@@ -646,6 +672,7 @@ public final class PromiseTest {
 
     // One CLIFF of STRENGTH 1 in the middle of a large land: far more than fifty ways.
     private static void promise28Fifty() {
+        promise = "P27, P28";
         EchoVale vale = Check.vale("land 10 10;cliff p 5 5 1 1;");
         int many = Check.pieces(vale, 0, 1, 1);
         due("many ways", many > 300, true);
@@ -657,6 +684,7 @@ public final class PromiseTest {
     }
 
     private static void promise29() {
+        promise = "P29";
         EchoVale vale = Check.vale(PAIR);
         vale.says(0, 9, 4);
         due("now", Check.claims(vale, "owns a 0;said a 0;"), NONE);
@@ -671,6 +699,7 @@ public final class PromiseTest {
     }
 
     private static void promise30and31() {
+        promise = "P30, P31";
         EchoVale vale = Check.vale(PAIR);
         due("ahead of any", vale.storms(0), NONE);
         due("n 0", vale.drawn(0, 5), NONE);
@@ -723,6 +752,7 @@ public final class PromiseTest {
     }
 
     private static void promise32() {
+        promise = "P32";
         EchoVale vale = Check.vale(PAIR);
         int more = 0;
         for (int i = 0; i < 40; i++) {
@@ -746,6 +776,7 @@ public final class PromiseTest {
     }
 
     private static void promise33() {
+        promise = "P33";
         EchoVale vale = Check.vale(ROW);
         due("the first", vale.poorest(0), 0);
         due("the first", vale.poorest(1), 0);
@@ -764,6 +795,7 @@ public final class PromiseTest {
     }
 
     private static void promise34() {
+        promise = "P34";
         EchoVale vale = Check.vale(PAIR + "felt 2 0;");
         due("p", vale.reach(10, 1), 1);
         due("p", vale.reach(10, 4), 1);
@@ -780,6 +812,7 @@ public final class PromiseTest {
     }
 
     private static void promise35() {
+        promise = "P35";
         EchoVale vale = Check.vale(ROW);
         due("a", vale.hears(0, 1), 1);
         due("a", vale.hears(0, 2), 1);
@@ -794,6 +827,7 @@ public final class PromiseTest {
     }
 
     private static void promise36and37() {
+        promise = "P36, P37";
         EchoVale vale = Check.vale("land 5 5;cliff abcdefg 0 0 3 9;cliff z 4 0 2 9;person a 0 1;person b 4 1;");
         due("no text yet", vale.byteAt(0), NONE);
         vale.says(0, 9, 4);
@@ -803,9 +837,9 @@ public final class PromiseTest {
         due("not yet", vale.write(0), 0);
         vale.on(5);
         due("bytes", vale.write(0), 18);
-        Check.due("text", Check.written(vale), "abcdefg 3 4;z 5 1;");
+        Check.due(promise + " text", Check.written(vale), "abcdefg 3 4;z 5 1;");
         due("no saying", vale.write(2), NONE);
-        Check.due("the text made last", Check.written(vale), "abcdefg 3 4;z 5 1;");
+        Check.due(promise + " the text made last", Check.written(vale), "abcdefg 3 4;z 5 1;");
         due("below", vale.byteAt(-1), NONE);
         due("behind", vale.byteAt(18), NONE);
         due("bytes", vale.write(1), 12);
@@ -814,7 +848,7 @@ public final class PromiseTest {
         vale.says(1, 5, 5);
         vale.on(3);
         due("bytes", vale.write(2), 22);
-        Check.due("text", Check.written(vale), "z 100 5;abcdefg 101 3;");
+        Check.due(promise + " text", Check.written(vale), "z 100 5;abcdefg 101 3;");
         vale.undo();
         vale.undo();
         vale.undo();
@@ -824,12 +858,13 @@ public final class PromiseTest {
         vale.says(1, 5, 3);
         vale.on(2);
         due("bytes", vale.write(2), 6);
-        Check.due("one digit", Check.written(vale), "z 9 3;");
+        Check.due(promise + " one digit", Check.written(vale), "z 9 3;");
         due("bytes", vale.write(3), 7);
-        Check.due("two digits", Check.written(vale), "z 11 3;");
+        Check.due(promise + " two digits", Check.written(vale), "z 11 3;");
     }
 
     private static void promise38and39() {
+        promise = "P38, P39";
         EchoVale vale = Check.vale(ROW);
         due("no sentence", vale.said(NONE), NONE);
         due("no sentence", vale.said(0), NONE);
@@ -867,6 +902,7 @@ public final class PromiseTest {
 
     // Snow takes all FORCE: the SAYING never SOUNDS, but it is lost only when no CLIFF gives it back any more.
     private static void promise39Lost() {
+        promise = "P39";
         EchoVale vale = Check.vale("land 5 5;cliff p 0 0 3 4;person a 0 0;snow 0 4;");
         vale.says(0, 5, 9);
         due("given back still", Check.saidBits(vale, "lost"), 0);
@@ -879,6 +915,7 @@ public final class PromiseTest {
     }
 
     private static void promise40and41() {
+        promise = "P40, P41";
         EchoVale vale = Check.vale(PAIR);
         due("no such place", vale.image(2), false);
         due("no such place", vale.image(-1), false);
@@ -918,6 +955,7 @@ public final class PromiseTest {
     }
 
     private static void promise42() {
+        promise = "P42";
         EchoVale vale = Check.vale("snow 1 3;land 7 6;cliff p 0 0 1 9;person a 0 1;person b 4 1;");
         vale.says(0, 9, 4);
         vale.on(1);
@@ -932,6 +970,7 @@ public final class PromiseTest {
 
     // What comes is 5; STRENGTH 6 less snow of the HOUR in which it SOUNDS caps it, and is not taken from it.
     private static void snowAndForce() {
+        promise = "P11";
         int[] snow = {0, 1, 2, 5, 6};
         int[] force = {5, 5, 4, 1, NONE};
         for (int i = 0; i < snow.length; i++) {

@@ -23,62 +23,62 @@ public final class TextTest {
 
     private static void fault(String text, int place, int kind) {
         EchoVale vale = new EchoVale();
-        Check.due("valley " + text, Check.valley(vale, text), -1 - place);
-        Check.due("fault of " + text, vale.fault(), kind);
-        Check.due("the tape behind " + text, vale.count(8), 0);
-        Check.due("cliffs behind a fault", vale.count(2), 0);
+        Check.due("P4 valley " + text, Check.valley(vale, text), -1 - place);
+        Check.due("P5 fault of " + text, vale.fault(), kind);
+        Check.due("P4 the tape behind " + text, vale.count(8), 0);
+        Check.due("P4 cliffs behind a fault", vale.count(2), 0);
     }
 
     private static void good(String text, int lines) {
         EchoVale vale = new EchoVale();
-        Check.due("valley " + text, Check.valley(vale, text), lines);
-        Check.due("fault of " + text, vale.fault(), 0);
-        Check.due("the tape behind " + text, vale.count(8), 0);
+        Check.due("P4 valley " + text, Check.valley(vale, text), lines);
+        Check.due("P5 fault of " + text, vale.fault(), 0);
+        Check.due("P4 the tape behind " + text, vale.count(8), 0);
     }
 
     private static void newObject() {
         EchoVale vale = new EchoVale();
         for (int what = 0; what <= 8; what++) {
-            Check.due("count of a new one " + what, vale.count(what), 0);
+            Check.due("P1 count of a new one " + what, vale.count(what), 0);
         }
-        Check.due("fault of a new one", vale.fault(), 0);
-        Check.due("undo of a new one", vale.undo(), NONE);
-        Check.due("said of a new one", vale.said(NONE), NONE);
-        Check.due("byteAt of a new one", vale.byteAt(0), NONE);
-        Check.due("storms of a new one", vale.storms(0), NONE);
-        Check.due("piece of a new one", vale.piece(0), NONE);
-        Check.due("restore of a new one", vale.restore(0), false);
-        Check.due("an hour of a new one", vale.on(1), 1);
+        Check.due("P5 fault of a new one", vale.fault(), 0);
+        Check.due("P1 undo of a new one", vale.undo(), NONE);
+        Check.due("P1 said of a new one", vale.said(NONE), NONE);
+        Check.due("P1 byteAt of a new one", vale.byteAt(0), NONE);
+        Check.due("P1 storms of a new one", vale.storms(0), NONE);
+        Check.due("P1 piece of a new one", vale.piece(0), NONE);
+        Check.due("P1 restore of a new one", vale.restore(0), false);
+        Check.due("P1 an hour of a new one", vale.on(1), 1);
     }
 
     private static void tape() {
         EchoVale vale = new EchoVale();
         for (int i = 1; i <= 47; i++) {
-            Check.due("feed " + i, vale.feed(1, 2, 3, 4, 5), i * 20);
+            Check.due("P2 feed " + i, vale.feed(1, 2, 3, 4, 5), i * 20);
         }
-        Check.due("feed of a full tape", vale.feed(1, 2, 3, 4, 5), NONE);
-        Check.due("bytes of a full tape", vale.count(8), 940);
-        Check.due("end beyond", vale.end(941), false);
-        Check.due("end below", vale.end(-1), false);
-        Check.due("bytes behind refused ends", vale.count(8), 940);
-        Check.due("end at all", vale.end(940), true);
-        Check.due("end at 921", vale.end(921), true);
-        Check.due("feed of 921", vale.feed(1, 2, 3, 4, 5), NONE);
-        Check.due("end at 920", vale.end(920), true);
-        Check.due("feed of 920", vale.feed(1, 2, 3, 4, 5), 940);
-        Check.due("end at 0", vale.end(0), true);
-        Check.due("bytes of none", vale.count(8), 0);
+        Check.due("P2 feed of a full tape", vale.feed(1, 2, 3, 4, 5), NONE);
+        Check.due("P2 bytes of a full tape", vale.count(8), 940);
+        Check.due("P3 end beyond", vale.end(941), false);
+        Check.due("P3 end below", vale.end(-1), false);
+        Check.due("P3 bytes behind refused ends", vale.count(8), 940);
+        Check.due("P3 end at all", vale.end(940), true);
+        Check.due("P3 end at 921", vale.end(921), true);
+        Check.due("P2 feed of 921", vale.feed(1, 2, 3, 4, 5), NONE);
+        Check.due("P3 end at 920", vale.end(920), true);
+        Check.due("P2 feed of 920", vale.feed(1, 2, 3, 4, 5), 940);
+        Check.due("P3 end at 0", vale.end(0), true);
+        Check.due("P3 bytes of none", vale.count(8), 0);
         // 'lan' and 'd 2 3;' in two numbers and a half, the highest byte first.
         vale.feed(0x6c616e64, 0x20322033, 0x3b000000, 0, 0);
         vale.end(9);
-        Check.due("highest first", vale.valley(), 1);
-        Check.due("width", vale.count(0), 2);
-        Check.due("height", vale.count(1), 3);
+        Check.due("P2 highest first", vale.valley(), 1);
+        Check.due("P4 width", vale.count(0), 2);
+        Check.due("P4 height", vale.count(1), 3);
         // Bytes above 127 are no TOKENS.
         vale.feed(0xff000000, 0, 0, 0, 0);
         vale.end(1);
-        Check.due("a high byte", vale.valley(), -1);
-        Check.due("fault of a high byte", vale.fault(), 1);
+        Check.due("P2 a high byte", vale.valley(), -1);
+        Check.due("P5 fault of a high byte", vale.fault(), 1);
     }
 
     private static void lines() {
@@ -232,26 +232,26 @@ public final class TextTest {
         vale.says(0, 5, 5);
         vale.on(1);
         Check.sentence(vale, "lost");
-        Check.due("a fault", Check.valley(vale, "land 9 9;x;"), -10);
-        Check.due("width stays", vale.count(0), 5);
-        Check.due("hour stays", vale.count(4), 1);
-        Check.due("saying stays", vale.count(5), 1);
-        Check.due("sentence stays", vale.said(NONE), 0);
-        Check.due("undo stays", vale.undo(), 1);
-        Check.due("fault stays", vale.fault(), 1);
-        Check.due("claims", Check.claims(vale, "said a 0;"), NONE);
-        Check.due("no fault", vale.fault(), 0);
-        Check.due("new", Check.valley(vale, "land 9 9;"), 1);
-        Check.due("hour of a new one", vale.count(4), 0);
-        Check.due("sayings of a new one", vale.count(5), 0);
-        Check.due("sentence of a new one", vale.said(NONE), NONE);
-        Check.due("undo of a new one", vale.undo(), NONE);
+        Check.due("P4 a fault", Check.valley(vale, "land 9 9;x;"), -10);
+        Check.due("P4 width stays", vale.count(0), 5);
+        Check.due("P4 hour stays", vale.count(4), 1);
+        Check.due("P4 saying stays", vale.count(5), 1);
+        Check.due("P4 sentence stays", vale.said(NONE), 0);
+        Check.due("P4 undo stays", vale.undo(), 1);
+        Check.due("P5 fault stays", vale.fault(), 1);
+        Check.due("P29 claims", Check.claims(vale, "said a 0;"), NONE);
+        Check.due("P5 no fault", vale.fault(), 0);
+        Check.due("P4 new", Check.valley(vale, "land 9 9;"), 1);
+        Check.due("P4 hour of a new one", vale.count(4), 0);
+        Check.due("P4 sayings of a new one", vale.count(5), 0);
+        Check.due("P4 sentence of a new one", vale.said(NONE), NONE);
+        Check.due("P4 undo of a new one", vale.undo(), NONE);
     }
 
     private static void claimsFault(EchoVale vale, String text, int place, int kind) {
-        Check.due("claims " + text, Check.claims(vale, text), -2 - place);
-        Check.due("fault of " + text, vale.fault(), kind);
-        Check.due("the tape behind " + text, vale.count(8), 0);
+        Check.due("P29 claims " + text, Check.claims(vale, text), -2 - place);
+        Check.due("P5 fault of " + text, vale.fault(), kind);
+        Check.due("P29 the tape behind " + text, vale.count(8), 0);
     }
 
     private static void claimsFaults() {
@@ -274,28 +274,28 @@ public final class TextTest {
         for (int i = 0; i < 30; i++) {
             thirty.append("owns a 0;");
         }
-        Check.due("thirty lines", Check.claims(vale, thirty.toString()), NONE);
+        Check.due("P29 thirty lines", Check.claims(vale, thirty.toString()), NONE);
         claimsFault(vale, thirty + "owns", 270, 4);
         claimsFault(vale, thirty + "land", 270, 1);
-        Check.due("300 bytes", Check.claims(vale, filled(thirty.toString(), 300)), NONE);
+        Check.due("P29 300 bytes", Check.claims(vale, filled(thirty.toString(), 300)), NONE);
         claimsFault(vale, filled(thirty.toString(), 301), 300, 1);
         claimsFault(vale, filled("owns z 0;", 301), 5, 3);
         claimsFault(vale, filled("", 299) + "owns a 0;", 300, 1);
-        Check.due("a fault behind what is not so", Check.claims(vale, "heard a 0;owns"), -2 - 14);
-        Check.due("none at all", Check.claims(vale, ""), NONE);
+        Check.due("P29 a fault behind what is not so", Check.claims(vale, "heard a 0;owns"), -2 - 14);
+        Check.due("P29 none at all", Check.claims(vale, ""), NONE);
     }
 
     private static void sentenceFault(EchoVale vale, String text, int place, int kind) {
-        Check.due("sentence " + text, Check.sentence(vale, text), -1 - place);
-        Check.due("fault of " + text, vale.fault(), kind);
-        Check.due("the tape behind " + text, vale.count(8), 0);
+        Check.due("P38 sentence " + text, Check.sentence(vale, text), -1 - place);
+        Check.due("P5 fault of " + text, vale.fault(), kind);
+        Check.due("P38 the tape behind " + text, vale.count(8), 0);
     }
 
     private static void sentenceFaults() {
         EchoVale vale = Check.vale(TWO);
         sentenceFault(vale, "", 0, 1);
         sentenceFault(vale, "  ", 2, 1);
-        Check.due("no sentence yet", vale.said(NONE), NONE);
+        Check.due("P39 no sentence yet", vale.said(NONE), NONE);
         sentenceFault(vale, "lost;", 4, 1);
         sentenceFault(vale, "lost lost", 5, 1);
         sentenceFault(vale, "lost or", 7, 1);
@@ -323,8 +323,8 @@ public final class TextTest {
         sentenceFault(vale, "lost and by abcdefg or #", 12, 3);
         sentenceFault(vale, filled("lost", 201), 200, 1);
         sentenceFault(vale, filled("lost or", 198) + "joint", 200, 1);
-        Check.due("200 bytes", Check.sentence(vale, filled("lost", 200)), 1);
-        Check.due("a sentence", vale.said(NONE), 0);
+        Check.due("P38 200 bytes", Check.sentence(vale, filled("lost", 200)), 1);
+        Check.due("P39 a sentence", vale.said(NONE), 0);
     }
 
     private static String times(String part, int n) {
@@ -337,19 +337,19 @@ public final class TextTest {
 
     private static void nesting() {
         EchoVale vale = Check.vale(TWO);
-        Check.due("ones", Check.sentence(vale, "not(lost or of a)and worth=1 or by a"), 6);
-        Check.due("eight within", Check.sentence(vale, times("not ", 7) + "lost"), 8);
+        Check.due("P38 ones", Check.sentence(vale, "not(lost or of a)and worth=1 or by a"), 6);
+        Check.due("P38 eight within", Check.sentence(vale, times("not ", 7) + "lost"), 8);
         sentenceFault(vale, times("not ", 8) + "lost", 32, 4);
         sentenceFault(vale, times("not ", 8) + "x", 32, 1);
-        Check.due("eight brackets", Check.sentence(vale, times("(", 7) + "lost" + times(")", 7)), 8);
+        Check.due("P38 eight brackets", Check.sentence(vale, times("(", 7) + "lost" + times(")", 7)), 8);
         sentenceFault(vale, times("(", 8) + "lost" + times(")", 8), 8, 4);
         sentenceFault(vale, times("(", 9) + "lost" + times(")", 9), 8, 4);
-        Check.due("twenty", Check.sentence(vale, times("lost or ", 19) + "joint"), 20);
+        Check.due("P38 twenty", Check.sentence(vale, times("lost or ", 19) + "joint"), 20);
         sentenceFault(vale, times("lost or ", 20) + "joint", 160, 4);
         sentenceFault(vale, times("lost or ", 20) + "or", 160, 1);
         sentenceFault(vale, times("lost or ", 20) + "not joint", 160, 4);
-        Check.due("twenty with brackets", Check.sentence(vale, "(lost)and" + times("(lost or not joint)and", 4) + " lost"
+        Check.due("P38 twenty with brackets", Check.sentence(vale, "(lost)and" + times("(lost or not joint)and", 4) + " lost"
             + times(" or lost", 1)), 20);
-        Check.due("the count of a good one", vale.fault(), 0);
+        Check.due("P5 the count of a good one", vale.fault(), 0);
     }
 }
