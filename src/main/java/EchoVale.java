@@ -425,10 +425,11 @@ public final class EchoVale {
     }
 
     public int nearest(int at, int loud) {
-        if (!valley.isCell(at) || !isLoud(loud)) {
+        if (!valley.isCell(at)) {
             return NONE;
         }
-        int left = valley.lessFelt(at, loud);
+        // No bound is told for LOUD here; what is below 0 comes nowhere, as 0 does, and must not wrap around on felt.
+        int left = valley.lessFelt(at, Math.max(0, loud));
         int best = NONE;
         int most = 0;
         for (int c = 0; c < valley.cliffs; c++) {

@@ -477,7 +477,12 @@ public final class BoundsTest {
             due("P34 reach from " + at, BUSY.make().reach(at, 9) != NONE, there);
         }
         Edge.askedFrom("P26 nearest at, in the last row", BUSY, NONE, 60, 67, (v, at) -> v.nearest(at, 9));
-        Edge.askedFrom("P26 nearest loud", BUSY, NONE, 1, 9, (v, loud) -> v.nearest(11, loud));
+        // No CLIFF gives back what is below 1; above it promise 26 has no bound. CELL 33 is on felt, 4 from p.
+        Edge.asked("P26 nearest loud", BUSY, NONE, (v, loud) -> v.nearest(11, loud), 1, 2, 9, 10, 11, 256, Edge.MOST);
+        Edge.refused("P26 nearest loud", BUSY, NONE, (v, loud) -> v.nearest(11, loud), 0, -1, -2, -256, Edge.LEAST);
+        Edge.asked("P26 nearest loud on felt", BUSY, NONE, (v, loud) -> v.nearest(33, loud), 6, 9, 10, 11, Edge.MOST);
+        Edge.refused("P26 nearest loud on felt", BUSY, NONE, (v, loud) -> v.nearest(33, loud), 5, 2, 1, 0, -1, -2,
+            Edge.LEAST, Edge.LEAST + 1, Edge.LEAST + 2);
         Edge.refused("P26 nearest without CLIFFS", BARE, NONE, (v, at) -> v.nearest(at, 9), ANY);
         Edge.refused("P26 nearest without a land", NEW, NONE, (v, at) -> v.nearest(at, 9), ANY);
         Edge.askedFrom("P33 poorest", BUSY, NONE, 0, 1, (v, most) -> v.poorest(most));

@@ -372,20 +372,29 @@ public final class ModelTest {
 
     private void askNear(int cell, int loud) {
         int bits = 0;
-        int best = NONE;
-        int most = 0;
         for (int c = 0; c < model.cliffs.size(); c++) {
             PlainModel.Cliff cliff = model.cliffs.get(c);
             int what = model.direct(cliff, cell % 10, cell / 10, model.real(cell, loud));
             bits |= what > 0 ? 1 << c : 0;
-            if (Math.min(what, cliff.strength) > most) {
-                most = Math.min(what, cliff.strength);
-                best = c;
-            }
             due("hears", vale.hears(c, loud), PlainModel.bits(model.hearers(c, loud)));
         }
         due("reach", vale.reach(cell, loud), bits);
-        due("nearest", vale.nearest(cell, loud), best);
+        due("nearest", vale.nearest(cell, loud), nearest(cell, loud));
+        due("nearest, louder", vale.nearest(cell, loud + 9), nearest(cell, loud + 9));
+    }
+
+    private int nearest(int cell, int loud) {
+        int best = NONE;
+        int most = 0;
+        for (int c = 0; c < model.cliffs.size(); c++) {
+            PlainModel.Cliff cliff = model.cliffs.get(c);
+            int what = Math.min(model.direct(cliff, cell % 10, cell / 10, model.real(cell, loud)), cliff.strength);
+            if (what > most) {
+                most = what;
+                best = c;
+            }
+        }
+        return best;
     }
 
     private void askOdds(int p) {

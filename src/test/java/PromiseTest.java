@@ -13,43 +13,54 @@ public final class PromiseTest {
     private static final String ROW = "land 10 2;cliff k 0 0 1 9;person a 0 0;person b 3 0;person c 9 0;";
 
     public static void main(String[] args) {
-        promise01();
-        promise02and03();
-        promise04and05();
-        promise06();
-        promise07();
-        promise08();
-        promise09();
-        promise09OnceOnly();
-        promise10();
-        promise11();
-        promise12();
-        promise13();
-        promise14();
-        promise15();
-        promise16and17();
-        promise18and19();
-        promise20();
-        promise21();
-        promise22to24();
-        promise25();
-        promise25OfOnePerson();
-        promise26();
-        promise27and28();
-        promise28Fifty();
-        promise29();
-        promise30and31();
-        promise32();
-        promise33();
-        promise34();
-        promise35();
-        promise36and37();
-        promise38and39();
-        promise39Lost();
-        promise40and41();
-        promise42();
-        snowAndForce();
+        test("P1", PromiseTest::promise01);
+        test("P2, P3", PromiseTest::promise02and03);
+        test("P4, P5", PromiseTest::promise04and05);
+        test("P6", PromiseTest::promise06);
+        test("P7", PromiseTest::promise07);
+        test("P8", PromiseTest::promise08);
+        test("P9", PromiseTest::promise09);
+        test("P9", PromiseTest::promise09OnceOnly);
+        test("P10", PromiseTest::promise10);
+        test("P11", PromiseTest::promise11);
+        test("P12", PromiseTest::promise12);
+        test("P13", PromiseTest::promise13);
+        test("P14", PromiseTest::promise14);
+        test("P15", PromiseTest::promise15);
+        test("P16, P17", PromiseTest::promise16and17);
+        test("P18, P19", PromiseTest::promise18and19);
+        test("P20", PromiseTest::promise20);
+        test("P21", PromiseTest::promise21);
+        test("P22, P23, P24", PromiseTest::promise22to24);
+        test("P25", PromiseTest::promise25);
+        test("P25", PromiseTest::promise25OfOnePerson);
+        test("P26", PromiseTest::promise26);
+        test("P26", PromiseTest::promise26Louder);
+        test("P27, P28", PromiseTest::promise27and28);
+        test("P27, P28", PromiseTest::promise28Fifty);
+        test("P29", PromiseTest::promise29);
+        test("P30, P31", PromiseTest::promise30and31);
+        test("P32", PromiseTest::promise32);
+        test("P33", PromiseTest::promise33);
+        test("P34", PromiseTest::promise34);
+        test("P35", PromiseTest::promise35);
+        test("P36, P37", PromiseTest::promise36and37);
+        test("P38, P39", PromiseTest::promise38and39);
+        test("P39", PromiseTest::promise39Lost);
+        test("P40, P41", PromiseTest::promise40and41);
+        test("P42", PromiseTest::promise42);
+        test("P11", PromiseTest::snowAndForce);
         Check.finish("PromiseTest");
+    }
+
+    // What one promise throws leaves the others their tests.
+    private static void test(String what, Runnable part) {
+        promise = what;
+        try {
+            part.run();
+        } catch (RuntimeException e) {
+            due("throws " + e, true, false);
+        }
     }
 
     private static void due(String what, long got, long want) {
@@ -91,7 +102,6 @@ public final class PromiseTest {
     }
 
     private static void promise01() {
-        promise = "P1";
         EchoVale vale = new EchoVale();
         due("NONE", EchoVale.NONE, -1);
         due("width", vale.count(0), 0);
@@ -103,7 +113,6 @@ public final class PromiseTest {
     }
 
     private static void promise02and03() {
-        promise = "P2, P3";
         EchoVale vale = new EchoVale();
         due("feed", vale.feed(0x736e6f77, 0x20352034, 0x3b20ff00, 0, 0), 20);
         due("end 21", vale.end(21), false);
@@ -117,7 +126,6 @@ public final class PromiseTest {
     }
 
     private static void promise04and05() {
-        promise = "P4, P5";
         EchoVale vale = new EchoVale();
         due("valley", Check.valley(vale, PAIR), 5);
         due("fault", vale.fault(), 0);
@@ -127,7 +135,6 @@ public final class PromiseTest {
     }
 
     private static void promise06() {
-        promise = "P6";
         EchoVale vale = Check.vale("land 9 9;cliff p 3 4 7 5;cliff q 0 0 1 2;snow 2 3;snow 4 1;");
         due("cell", vale.cliff(0, 0), 43);
         due("delay", vale.cliff(0, 1), 7);
@@ -146,7 +153,6 @@ public final class PromiseTest {
     }
 
     private static void promise07() {
-        promise = "P7";
         EchoVale vale = Check.vale(PAIR + "camp b 2 3;move a 1 2 2;");
         due("cell", vale.person(0, 0), 10);
         due("camp", vale.person(1, 5), 32);
@@ -175,7 +181,6 @@ public final class PromiseTest {
     }
 
     private static void promise08() {
-        promise = "P8";
         EchoVale vale = Check.vale(PAIR + "felt 0 1;");
         vale.on(2);
         due("number", vale.says(0, 9, 6), 0);
@@ -197,7 +202,6 @@ public final class PromiseTest {
     }
 
     private static void promise09() {
-        promise = "P9";
         EchoVale vale = Check.vale(PAIR);
         vale.says(0, 9, 4);
         due("when", vale.comes(0, 0, 0), 3);
@@ -229,7 +233,6 @@ public final class PromiseTest {
 
     // CLIFF p SOUNDS at 1 and q at 1: both send on to r, of like ones the greater comes; p and q get nothing more.
     private static void promise09OnceOnly() {
-        promise = "P9";
         String[] cliffs = {"cliff q 0 2 2 9;cliff p 3 0 2 9;", "cliff p 3 0 2 9;cliff q 0 2 2 9;"};
         for (String both : cliffs) {
             EchoVale vale = Check.vale("land 9 9;" + both + "cliff r 3 3 1 9;person a 0 0;");
@@ -258,7 +261,6 @@ public final class PromiseTest {
     }
 
     private static void promise10() {
-        promise = "P10";
         EchoVale vale = Check.vale(ROW);
         vale.says(2, 10, 9);
         due("own", vale.share(2, 0), 10);
@@ -286,7 +288,6 @@ public final class PromiseTest {
     }
 
     private static void promise11() {
-        promise = "P11";
         EchoVale vale = Check.vale("land 5 2;cliff p 0 0 2 3;cliff q 4 0 2 9;person a 0 1;person b 4 1;");
         // A second SAYING SOUNDS in the same HOUR: first by SAYING, then by CLIFF.
         vale.says(1, 9, 9);
@@ -309,7 +310,6 @@ public final class PromiseTest {
     }
 
     private static void promise12() {
-        promise = "P12";
         EchoVale vale = Check.vale("land 3 4;person a 0 1;");
         due("goes", vale.goes(0, 32), true);
         due("there", vale.person(0, 0), 32);
@@ -323,7 +323,6 @@ public final class PromiseTest {
     }
 
     private static void promise13() {
-        promise = "P13";
         EchoVale vale = Check.vale(PAIR);
         due("worth 0", vale.says(0, 0, 1), NONE);
         due("worth 100", vale.says(0, 100, 1), NONE);
@@ -345,7 +344,6 @@ public final class PromiseTest {
     }
 
     private static void promise14() {
-        promise = "P14";
         EchoVale vale = Check.vale(PAIR);
         due("0", vale.on(0), NONE);
         due("101", vale.on(101), NONE);
@@ -384,7 +382,6 @@ public final class PromiseTest {
     }
 
     private static void promise15() {
-        promise = "P15";
         EchoVale vale = Check.vale(PAIR);
         vale.goes(0, 22);
         vale.says(0, 9, 9);
@@ -416,7 +413,6 @@ public final class PromiseTest {
     }
 
     private static void promise16and17() {
-        promise = "P16, P17";
         EchoVale vale = Check.vale(ROW);
         vale.says(2, 10, 9);
         // k SOUNDS with 5: who is within 5 of (0, 0) owns it together with a and b.
@@ -454,7 +450,6 @@ public final class PromiseTest {
 
     // Two CLIFFS; a and b may each camp beside the other one.
     private static void promise18and19() {
-        promise = "P18, P19";
         EchoVale vale = Check.vale(ROW + "camp c 3 1;camp b 8 0;");
         vale.says(2, 10, 9);
         due("none camps", vale.has(2, 0, 1), 0);
@@ -484,7 +479,6 @@ public final class PromiseTest {
     }
 
     private static void promise20() {
-        promise = "P20";
         EchoVale vale = Check.vale("land 5 5;cliff p 0 0 3 9;person a 4 4;person b 1 0;");
         // FORCE 1 at p is heard by b alone, unless a is within 1 of it, too: LOUD 1 from (0, 0), (1, 0), (0, 1).
         due("a within 1", vale.tells(0, 1, 1, 3, NONE), 0);
@@ -515,7 +509,6 @@ public final class PromiseTest {
     }
 
     private static void promise21() {
-        promise = "P21";
         EchoVale vale = Check.vale("land 9 9;cliff p 0 0 3 9;person a 0 4;person b 8 8;");
         // a is 4 from p: LOUD 4 comes as 2, which a does not hear; LOUD 5 as 3, 6 as 4.
         due("secret", vale.secret(0, 3), 5);
@@ -531,7 +524,6 @@ public final class PromiseTest {
     }
 
     private static void promise22to24() {
-        promise = "P22, P23, P24";
         EchoVale vale = Check.vale(PAIR);
         due("nothing", vale.next(100), NONE);
         vale.on(10);
@@ -567,7 +559,6 @@ public final class PromiseTest {
     }
 
     private static void promise25() {
-        promise = "P25";
         EchoVale vale = Check.vale("land 5 5;person a 0 0;person b 1 0;move a 3 1 0;move b 6 4 4;");
         due("meets", vale.meets(0, 1, 60), 3);
         due("meets", vale.meets(1, 0, 4), 2);
@@ -588,7 +579,6 @@ public final class PromiseTest {
 
     /** A PERSON told twice is on one CELL with itself in each HOUR that goes by, wherever it moves. */
     private static void promise25OfOnePerson() {
-        promise = "P25";
         for (int hour = 0; hour <= 400; hour += hour < 330 ? 30 : 1) {
             EchoVale vale = Check.vale("land 5 5;person a 0 0;person b 1 0;person c 4 4;move a 3 1 0;move b 6 4 4;");
             for (int left = hour; left > 0; left -= 100) {
@@ -610,7 +600,6 @@ public final class PromiseTest {
     }
 
     private static void promise26() {
-        promise = "P26";
         EchoVale vale = Check.vale("land 10 10;cliff p 0 0 1 3;cliff q 4 0 1 9;cliff r 9 9 1 9;felt 1 1;");
         // From (1, 0): 1 to p: 9, at most 3; 3 to q: 8.
         due("at most its strength", vale.nearest(1, 9), 1);
@@ -625,13 +614,31 @@ public final class PromiseTest {
         due("on felt", vale.nearest(11, 4), 0);
         due("on felt", vale.nearest(11, 2), NONE);
         due("loud 0", vale.nearest(0, 0), NONE);
-        due("loud 10", vale.nearest(0, 10), NONE);
+        due("loud -1", vale.nearest(0, -1), NONE);
         due("no such cell", vale.nearest(-1, 9), NONE);
         due("no such cell", vale.nearest(100, 9), NONE);
     }
 
+    // No bound is told for LOUD here, as it is for reach().
+    private static void promise26Louder() {
+        EchoVale vale = Check.vale("land 10 10;cliff p 0 0 1 3;cliff q 4 0 1 8;cliff r 9 9 1 9;felt 1 1;");
+        // From (0, 0): 0 to p, at most 3; 4 to q: 8; 18 to r.
+        due("loud 10", vale.nearest(0, 10), 1);
+        due("loud 17", vale.nearest(0, 17), 1);
+        due("loud 18", vale.nearest(0, 18), 2);
+        due("the loudest", vale.nearest(0, Integer.MAX_VALUE), 2);
+        due("the least", vale.nearest(0, Integer.MIN_VALUE), NONE);
+        // From (1, 1): 16 to r.
+        due("loud 17 on felt", vale.nearest(11, 17), 1);
+        due("loud 18 on felt: q at most 8, r 8", vale.nearest(11, 18), 1);
+        due("loud 19 on felt: q at most 8, r 9", vale.nearest(11, 19), 2);
+        due("the loudest on felt", vale.nearest(11, Integer.MAX_VALUE), 2);
+        due("the least on felt", vale.nearest(11, Integer.MIN_VALUE), NONE);
+        due("the next on felt", vale.nearest(11, Integer.MIN_VALUE + 1), NONE);
+        due("no such cell, loud 10", vale.nearest(100, 10), NONE);
+    }
+
     private static void promise27and28() {
-        promise = "P27, P28";
         EchoVale vale = Check.vale("land 3 3;cliff p 0 0 2 5;cliff q 2 0 3 9;felt 0 0;snow 8 1;");
         due("ahead of any", vale.piece(0), NONE);
         // p at 7 with 4: said at 5; through q, said at 2, p would have given it back by itself, ahead of that.
@@ -672,7 +679,6 @@ public final class PromiseTest {
 
     // One CLIFF of STRENGTH 1 in the middle of a large land: far more than fifty ways.
     private static void promise28Fifty() {
-        promise = "P27, P28";
         EchoVale vale = Check.vale("land 10 10;cliff p 5 5 1 1;");
         int many = Check.pieces(vale, 0, 1, 1);
         due("many ways", many > 300, true);
@@ -684,7 +690,6 @@ public final class PromiseTest {
     }
 
     private static void promise29() {
-        promise = "P29";
         EchoVale vale = Check.vale(PAIR);
         vale.says(0, 9, 4);
         due("now", Check.claims(vale, "owns a 0;said a 0;"), NONE);
@@ -699,7 +704,6 @@ public final class PromiseTest {
     }
 
     private static void promise30and31() {
-        promise = "P30, P31";
         EchoVale vale = Check.vale(PAIR);
         due("ahead of any", vale.storms(0), NONE);
         due("n 0", vale.drawn(0, 5), NONE);
@@ -752,7 +756,6 @@ public final class PromiseTest {
     }
 
     private static void promise32() {
-        promise = "P32";
         EchoVale vale = Check.vale(PAIR);
         int more = 0;
         for (int i = 0; i < 40; i++) {
@@ -776,7 +779,6 @@ public final class PromiseTest {
     }
 
     private static void promise33() {
-        promise = "P33";
         EchoVale vale = Check.vale(ROW);
         due("the first", vale.poorest(0), 0);
         due("the first", vale.poorest(1), 0);
@@ -795,7 +797,6 @@ public final class PromiseTest {
     }
 
     private static void promise34() {
-        promise = "P34";
         EchoVale vale = Check.vale(PAIR + "felt 2 0;");
         due("p", vale.reach(10, 1), 1);
         due("p", vale.reach(10, 4), 1);
@@ -812,7 +813,6 @@ public final class PromiseTest {
     }
 
     private static void promise35() {
-        promise = "P35";
         EchoVale vale = Check.vale(ROW);
         due("a", vale.hears(0, 1), 1);
         due("a", vale.hears(0, 2), 1);
@@ -827,7 +827,6 @@ public final class PromiseTest {
     }
 
     private static void promise36and37() {
-        promise = "P36, P37";
         EchoVale vale = Check.vale("land 5 5;cliff abcdefg 0 0 3 9;cliff z 4 0 2 9;person a 0 1;person b 4 1;");
         due("no text yet", vale.byteAt(0), NONE);
         vale.says(0, 9, 4);
@@ -864,7 +863,6 @@ public final class PromiseTest {
     }
 
     private static void promise38and39() {
-        promise = "P38, P39";
         EchoVale vale = Check.vale(ROW);
         due("no sentence", vale.said(NONE), NONE);
         due("no sentence", vale.said(0), NONE);
@@ -902,7 +900,6 @@ public final class PromiseTest {
 
     // Snow takes all FORCE: the SAYING never SOUNDS, but it is lost only when no CLIFF gives it back any more.
     private static void promise39Lost() {
-        promise = "P39";
         EchoVale vale = Check.vale("land 5 5;cliff p 0 0 3 4;person a 0 0;snow 0 4;");
         vale.says(0, 5, 9);
         due("given back still", Check.saidBits(vale, "lost"), 0);
@@ -915,7 +912,6 @@ public final class PromiseTest {
     }
 
     private static void promise40and41() {
-        promise = "P40, P41";
         EchoVale vale = Check.vale(PAIR);
         due("no such place", vale.image(2), false);
         due("no such place", vale.image(-1), false);
@@ -955,7 +951,6 @@ public final class PromiseTest {
     }
 
     private static void promise42() {
-        promise = "P42";
         EchoVale vale = Check.vale("snow 1 3;land 7 6;cliff p 0 0 1 9;person a 0 1;person b 4 1;");
         vale.says(0, 9, 4);
         vale.on(1);
@@ -970,7 +965,6 @@ public final class PromiseTest {
 
     // What comes is 5; STRENGTH 6 less snow of the HOUR in which it SOUNDS caps it, and is not taken from it.
     private static void snowAndForce() {
-        promise = "P11";
         int[] snow = {0, 1, 2, 5, 6};
         int[] force = {5, 5, 4, 1, NONE};
         for (int i = 0; i < snow.length; i++) {
